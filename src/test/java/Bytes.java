@@ -1,0 +1,119 @@
+import java.io.ByteArrayOutputStream;
+import java.math.BigInteger;
+
+/** Heads and rows as the document writes them, worked out apart from the class, and put on a disk by poke. */
+final class Bytes {
+  private static final BigInteger FACTOR = new BigInteger("C2B2AE3D27D4EB4F", 16);
+  private static final BigInteger ALL = BigInteger.ONE.shiftLeft(64).subtract(BigInteger.ONE);
+
+  private final ByteArrayOutputStream log = new ByteArrayOutputStream();
+
+  static long sum(byte[] bytes, long start) {
+    BigInteger s = BigInteger.valueOf(start);
+    for (byte b : bytes) {
+      BigInteger x = s.xor(BigInteger.valueOf(b & 255));
+      BigInteger turned = x.shiftLeft(29).or(x.shiftRight(35)).and(ALL);
+      s = turned.multiply(FACTOR).and(ALL);
+    }
+    return s.longValue();
+  }
+
+  static void number(ByteArrayOutputStream to, long value, int bytes) {
+    for (int i = bytes - 1; i >= 0; i--) {
+      to.write((int) (value >>> (8 * i)) & 255);
+    }
+  }
+
+  static byte[] headBytes(long turn, long length) {
+    ByteArrayOutputStream head = new ByteArrayOutputStream();
+    number(head, turn, 4);
+    number(head, length, 4);
+    number(head, sum(head.toByteArray(), 1), 8);
+    return head.toByteArray();
+  }
+
+  /** A row behind those that are here, of any kind and size. */
+  Bytes row(int kind, int number, int size, byte[] text) {
+    ByteArrayOutputStream row = new ByteArrayOutputStream();
+    row.write(kind);
+    number(row, number, 2);
+    row.write(size);
+    row.write(text, 0, text.length);
+    number(row, sum(row.toByteArray(), 32 + log.size()), 8);
+    byte[] bytes = row.toByteArray();
+    log.write(bytes, 0, bytes.length);
+    return this;
+  }
+
+  Bytes row(int kind, int number, byte[] text) {
+    return row(kind, number, text.length, text);
+  }
+
+  Bytes chunk(int number, long... edges) {
+    ByteArrayOutputStream text = new ByteArrayOutputStream();
+    for (int i = 0; i < 8; i++) {
+      number(text, i < edges.length ? edges[i] : 0L, 8);
+    }
+    return row(1, number, text.toByteArray());
+  }
+
+  Bytes change(int number, int a, int b, int on) {
+    return row(2, number, new byte[] {(byte) a, (byte) b, (byte) on});
+  }
+
+  Bytes version(int number, int... chunks) {
+    ByteArrayOutputStream text = new ByteArrayOutputStream();
+    for (int i = 0; i < 8; i++) {
+      number(text, chunks[Math.min(i, chunks.length - 1)], 2);
+    }
+    return row(3, number, text.toByteArray());
+  }
+
+  Bytes answer(int number, int version, int node, long mask) {
+    ByteArrayOutputStream text = new ByteArrayOutputStream();
+    text.write(version);
+    text.write(node);
+    number(text, mask, 8);
+    return row(4, number, text.toByteArray());
+  }
+
+  Bytes drop(int version) {
+    return row(5, version, new byte[0]);
+  }
+
+  int length() {
+    return log.size();
+  }
+
+  byte[] log() {
+    return log.toByteArray();
+  }
+
+  static void put(GraphLog x, int place, byte[] bytes) {
+    for (int i = 0; i < bytes.length; i++) {
+      x.poke(place + i, x.byteAt(place + i) ^ bytes[i]);
+    }
+  }
+
+  /** On the disk of x there are these rows, and a head that keeps so many of their bytes. */
+  void putOn(GraphLog x, long turn, long length) {
+    put(x, 32, log());
+    put(x, turn % 2 == 0 ? 0 : 16, headBytes(turn, length));
+  }
+
+  GraphLog onNew(int room) {
+    GraphLog x = new GraphLog();
+    x.begin(room);
+    putOn(x, 1, length());
+    return x;
+  }
+
+  static boolean stands(GraphLog x, int place, byte[] bytes) {
+    for (int i = 0; i < bytes.length; i++) {
+      if (x.byteAt(place + i) != (bytes[i] & 255)) {
+        return false;
+      }
+    }
+    return true;
+  }
+}
