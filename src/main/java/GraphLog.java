@@ -316,7 +316,7 @@ public final class GraphLog {
     private void writeChunk(int g, int number) {
         startRow(CHUNK, number);
         for (int i = 0; i < PARTS; i++) {
-            disk.write(known.edgesFrom(NONE, g * PARTS + i), 8);
+            disk.write(known.edgesOfNow(g * PARTS + i), 8);
         }
         endRow();
     }
@@ -443,8 +443,9 @@ public final class GraphLog {
 
         long sum(int from, int to, long start) {
             long s = start;
-            for (int place = from; place < to; place++) {
-                long mixed = s ^ get(place);
+            int end = Math.min(to, bytes.length);
+            for (int place = Math.max(from, 0); place < end; place++) {
+                long mixed = s ^ (bytes[place] & 255);
                 s = (mixed << 29 | mixed >>> 35) * SUM_FACTOR;
             }
             return s;
@@ -537,7 +538,7 @@ public final class GraphLog {
 
         private boolean isAlike(int slot, Known known, int g) {
             for (int i = 0; i < PARTS; i++) {
-                if (edgesOf(slot, i) != known.edgesFrom(NONE, g * PARTS + i)) {
+                if (edgesOf(slot, i) != known.edgesOfNow(g * PARTS + i)) {
                     return false;
                 }
             }
@@ -561,6 +562,7 @@ public final class GraphLog {
     private static final class Known {
         private final long[] now = new long[NODES];
         private final Chunks chunks = new Chunks();
+        /** Of the versions that came; what stands behind them counts for nothing. */
         private final boolean[] there = new boolean[MOST_VERSIONS];
         private final int[] slots = new int[MOST_VERSIONS * PARTS];
         private final int[] answerVersions = new int[MOST_ANSWERS];
@@ -575,9 +577,6 @@ public final class GraphLog {
         void forget(int newRoom) {
             room = newRoom;
             Arrays.fill(now, 0L);
-            for (int version = 0; version < MOST_VERSIONS; version++) {
-                there[version] = false;
-            }
             chunks.forget();
             changes = 0;
             versions = 0;
@@ -605,12 +604,16 @@ public final class GraphLog {
             return right ? slots[version * PARTS + g] : NONE;
         }
 
+        long edgesOfNow(int node) {
+            return node >= 0 && node < NODES ? now[node] : 0L;
+        }
+
         /** A version of NONE is NOW. */
         long edgesFrom(int version, int node) {
-            if (node < 0 || node >= NODES) {
-                return 0L;
+            if (version == NONE) {
+                return edgesOfNow(node);
             }
-            return version == NONE ? now[node] : chunks.edgesOf(slotOf(version, node / PARTS), node % PARTS);
+            return chunks.edgesOf(slotOf(version, node / PARTS), node % PARTS);
         }
 
         boolean joins(int version, int a, int b) {
@@ -660,7 +663,8 @@ public final class GraphLog {
             int text = place + ROW_FRONT;
             switch (disk.get(place)) {
                 case CHUNK: return number < room && chunks.namesOf(chunks.find(number)) == 0;
-                case CHANGE: return number == changes && isChange(disk.get(text), disk.get(text + 1), disk.get(text + 2));
+                case CHANGE: return number == changes
+                    && isChange(disk.get(text), disk.get(text + 1), disk.get(text + 2));
                 case VERSION: return number == versions && number < MOST_VERSIONS && haveCome(disk, text);
                 case ANSWER: return number == answers && number < MOST_ANSWERS
                     && isThere(disk.get(text)) && disk.get(text + 1) < NODES;
@@ -670,7 +674,7 @@ public final class GraphLog {
         }
 
         private boolean isChange(int a, int b, int on) {
-            return a < NODES && b < NODES && on <= 1 && joins(NONE, a, b) != (on == 1);
+            return a < NODES && b < NODES && on <= 1 && (edgesOfNow(a) >>> b & 1L) != on;
         }
 
         private boolean haveCome(Disk disk, int text) {
@@ -806,7 +810,7 @@ public final class GraphLog {
 
         private boolean areAlike(Known known, int h, int g) {
             for (int i = 0; i < PARTS; i++) {
-                if (known.edgesFrom(NONE, h * PARTS + i) != known.edgesFrom(NONE, g * PARTS + i)) {
+                if (known.edgesOfNow(h * PARTS + i) != known.edgesOfNow(g * PARTS + i)) {
                     return false;
                 }
             }
