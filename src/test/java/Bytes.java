@@ -32,15 +32,19 @@ final class Bytes {
     return head.toByteArray();
   }
 
-  /** A row behind those that are here, of any kind and size. */
-  Bytes row(int kind, int number, int size, byte[] text) {
+  static byte[] rowBytes(int place, int kind, int number, int size, byte[] text) {
     ByteArrayOutputStream row = new ByteArrayOutputStream();
     row.write(kind);
     number(row, number, 2);
     row.write(size);
     row.write(text, 0, text.length);
-    number(row, sum(row.toByteArray(), 32 + log.size()), 8);
-    byte[] bytes = row.toByteArray();
+    number(row, sum(row.toByteArray(), place), 8);
+    return row.toByteArray();
+  }
+
+  /** A row behind those that are here, of any kind and size. */
+  Bytes row(int kind, int number, int size, byte[] text) {
+    byte[] bytes = rowBytes(32 + log.size(), kind, number, size, text);
     log.write(bytes, 0, bytes.length);
     return this;
   }
@@ -49,32 +53,49 @@ final class Bytes {
     return row(kind, number, text.length, text);
   }
 
-  Bytes chunk(int number, long... edges) {
+  static byte[] chunkText(long... edges) {
     ByteArrayOutputStream text = new ByteArrayOutputStream();
     for (int i = 0; i < 8; i++) {
       number(text, i < edges.length ? edges[i] : 0L, 8);
     }
-    return row(1, number, text.toByteArray());
+    return text.toByteArray();
   }
 
-  Bytes change(int number, int a, int b, int on) {
-    return row(2, number, new byte[] {(byte) a, (byte) b, (byte) on});
+  static byte[] changeText(int a, int b, int on) {
+    return new byte[] {(byte) a, (byte) b, (byte) on};
   }
 
-  Bytes version(int number, int... chunks) {
+  /** The last of the numbers stands for those that are not told. */
+  static byte[] versionText(int... chunks) {
     ByteArrayOutputStream text = new ByteArrayOutputStream();
     for (int i = 0; i < 8; i++) {
       number(text, chunks[Math.min(i, chunks.length - 1)], 2);
     }
-    return row(3, number, text.toByteArray());
+    return text.toByteArray();
   }
 
-  Bytes answer(int number, int version, int node, long mask) {
+  static byte[] answerText(int version, int node, long mask) {
     ByteArrayOutputStream text = new ByteArrayOutputStream();
     text.write(version);
     text.write(node);
     number(text, mask, 8);
-    return row(4, number, text.toByteArray());
+    return text.toByteArray();
+  }
+
+  Bytes chunk(int number, long... edges) {
+    return row(1, number, chunkText(edges));
+  }
+
+  Bytes change(int number, int a, int b, int on) {
+    return row(2, number, changeText(a, b, on));
+  }
+
+  Bytes version(int number, int... chunks) {
+    return row(3, number, versionText(chunks));
+  }
+
+  Bytes answer(int number, int version, int node, long mask) {
+    return row(4, number, answerText(version, node, mask));
   }
 
   Bytes drop(int version) {

@@ -7,14 +7,24 @@ final class Due {
 
   private static int wrong = 0;
   private static int seen = 0;
+  private static String about = "";
 
   private Due() {}
+
+  /** What the next answers are about is printed ahead of each that is not as due. */
+  static void about(String words) {
+    about = words;
+  }
+
+  static int seen() {
+    return seen;
+  }
 
   static void is(String what, long got, long want) {
     seen++;
     if (got != want) {
       wrong++;
-      System.out.println(what + " answered " + got + ", due is " + want);
+      System.out.println(about + what + " answered " + got + ", due is " + want);
     }
   }
 
@@ -26,7 +36,7 @@ final class Due {
     seen++;
     if (!got.equals(want)) {
       wrong++;
-      System.out.println(what + " answered " + got + ", due is " + want);
+      System.out.println(about + what + " answered " + got + ", due is " + want);
     }
   }
 
