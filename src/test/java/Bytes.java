@@ -110,31 +110,11 @@ final class Bytes {
     return log.toByteArray();
   }
 
-  static void put(GraphLog x, int place, byte[] bytes) {
-    for (int i = 0; i < bytes.length; i++) {
-      x.poke(place + i, x.byteAt(place + i) ^ bytes[i]);
-    }
-  }
-
-  /** On the disk of x there are these rows, and a head that keeps so many of their bytes. */
-  void putOn(GraphLog x, long turn, long length) {
-    put(x, 32, log());
-    put(x, turn % 2 == 0 ? 0 : 16, headBytes(turn, length));
-  }
-
-  GraphLog onNew(int room) {
-    GraphLog x = new GraphLog();
-    x.begin(room);
-    putOn(x, 1, length());
-    return x;
-  }
-
-  static boolean stands(GraphLog x, int place, byte[] bytes) {
-    for (int i = 0; i < bytes.length; i++) {
-      if (x.byteAt(place + i) != (bytes[i] & 255)) {
-        return false;
-      }
-    }
-    return true;
+  /** A new store with a room, on whose disk there are these rows, and a head with turn 1 that keeps them. */
+  Store onNew(int room) {
+    Store s = Store.of(room);
+    s.turn(32, new byte[0], log());
+    s.headOne(length());
+    return s;
   }
 }

@@ -1,22 +1,23 @@
+import java.util.ArrayList;
+import java.util.List;
 import java.util.Random;
 
-/** Runs of up to 512 calls, each answer compared with that of the plain store; always the same runs. */
+/** Runs of at most 512 calls, each answer compared with that of the plain store; always the same runs. */
 public final class RandomRunsTest {
-  private static final int RUNS = 250, CALLS = 512, MOST_AT_ONCE = 12;
+  private static final int RUNS = 400, MOST_AT_ONCE = 12, LAST_LOOKS = 50, BY_HAND = 5;
   private static final int[] ROOMS = {1, 2, 3, 5, 9, 64, 300, 65536};
 
   private final Random random;
   private final String run;
-  private final GraphLog x = new GraphLog();
+  private final Store x = new Store();
   private final PlainStore plain = new PlainStore();
   private final int spread;
   private final int style;
-  private int calls;
 
   private RandomRunsTest(int seed) {
     random = new Random(seed);
     run = "run " + seed;
-    style = seed % 5;
+    style = seed % 6;
     spread = new int[] {3, 10, 24, 64}[random.nextInt(4)];
   }
 
@@ -31,29 +32,27 @@ public final class RandomRunsTest {
 
   private void go() {
     int room = ROOMS[random.nextInt(ROOMS.length)];
-    same("begin(" + room + ")", () -> begun(room), () -> plain.begin(room));
-    while (calls < CALLS - MOST_AT_ONCE - 10) {
+    same("begin(" + room + ")", () -> x.begin(room), () -> plain.begin(room));
+    if (style == BY_HAND) {
+      rowsByHand(room);
+    }
+    while (x.calls() < Store.MOST_CALLS - MOST_AT_ONCE - LAST_LOOKS - 11) {
       call();
+    }
+    int end = 32 + 24000;
+    if (plain.isOpen() == 1) {
+      end = 32 + plain.told(3);
     }
     for (int what = 0; what < 10; what++) {
       told(what);
     }
-    Due.is(run + ", calls", Math.max(calls, CALLS), CALLS);
-    // the one look that goes beyond 512 calls: the disk, as the run left it
-    for (int place = 0; place < 24032; place++) {
-      if (x.byteAt(place) != plain.byteAt(place)) {
-        Due.is(run + ", byte " + place + " of the disk", x.byteAt(place), plain.byteAt(place));
-      }
+    for (int i = 0; i < LAST_LOOKS; i++) {
+      int place = i % 5 == 0 ? random.nextInt(32) : random.nextInt(Math.min(end + 40, 24032));
+      same("byteAt(" + place + ")", () -> x.byteAt(place), () -> plain.byteAt(place));
     }
   }
 
-  private long begun(int room) {
-    x.begin(room);
-    return 0;
-  }
-
   private void same(String what, Due.Call got, Due.Call want) {
-    calls++;
     Due.is(run + ", " + what, Due.outcome(got), Due.outcome(want));
   }
 
@@ -83,7 +82,7 @@ public final class RandomRunsTest {
     }
     if (plain.isOpen() == 0 && random.nextInt(12) == 0) {
       int room = ROOMS[random.nextInt(ROOMS.length)];
-      same("begin(" + room + ")", () -> begun(room), () -> plain.begin(room));
+      same("begin(" + room + ")", () -> x.begin(room), () -> plain.begin(room));
     }
   }
 
@@ -105,7 +104,7 @@ public final class RandomRunsTest {
 
   private void ask(int kind, int a, int b, int v, int w) {
     if (kind < 69) {
-      same("has(" + v + ", " + a + ", " + b + ")", () -> x.has(v, a, b) ? 1 : 0, () -> plain.has(v, a, b));
+      same("has(" + v + ", " + a + ", " + b + ")", () -> x.has(v, a, b), () -> plain.has(v, a, b));
     } else if (kind < 72) {
       int g = random.nextInt(10) - 1;
       same("chunk(" + v + ", " + g + ")", () -> x.chunk(v, g), () -> plain.chunk(v, g));
@@ -117,13 +116,13 @@ public final class RandomRunsTest {
     } else if (kind < 80) {
       same("far(" + v + ", " + a + ", " + b + ")", () -> x.far(v, a, b), () -> plain.far(v, a, b));
     } else if (kind < 82) {
-      same("usable(" + w + ")", () -> x.usable(w) ? 1 : 0, () -> plain.usable(w));
+      same("usable(" + w + ")", () -> x.usable(w), () -> plain.usable(w));
     } else if (kind < 84) {
       same("mask(" + w + ")", () -> x.mask(w), () -> plain.mask(w));
     } else if (kind < 85) {
       same("badAt()", x::badAt, plain::badAt);
     } else if (kind < 86) {
-      same("isOpen()", () -> x.isOpen() ? 1 : 0, plain::isOpen);
+      same("isOpen()", x::isOpen, plain::isOpen);
     } else {
       told(random.nextInt(12) - 1);
     }
@@ -142,11 +141,15 @@ public final class RandomRunsTest {
     }
   }
 
+  private void poke(int place, int mask) {
+    same("poke(" + place + ", " + mask + ")", () -> x.poke(place, mask), () -> plain.poke(place, mask));
+  }
+
   /** A byte is turned, something is done, and mostly the byte is turned back. */
   private void pokes() {
     int place = random.nextInt(3) == 0 ? random.nextInt(32) : 32 + random.nextInt(style == 2 ? 24000 : 900);
     int mask = 1 << random.nextInt(9);
-    same("poke(" + place + ", " + mask + ")", () -> x.poke(place, mask), () -> plain.poke(place, mask));
+    poke(place, mask);
     same("badAt()", x::badAt, plain::badAt);
     int more = random.nextInt(4);
     for (int i = 0; i < more; i++) {
@@ -156,7 +159,57 @@ public final class RandomRunsTest {
       write(random.nextInt(66));
     }
     if (random.nextInt(8) > 0) {
-      same("poke(" + place + ", " + mask + ")", () -> x.poke(place, mask), () -> plain.poke(place, mask));
+      poke(place, mask);
+    }
+  }
+
+  /** Rows that no calls wrote, most of them right; what is behind the right ones is left out, and written over. */
+  private void rowsByHand(int room) {
+    Bytes log = new Bytes();
+    List<Integer> ends = new ArrayList<>(List.of(0));
+    int[] came = new int[6];
+    int rows = 3 + random.nextInt(13);
+    for (int i = 0; i < rows; i++) {
+      addRow(log, i < 2 ? 1 : 1 + random.nextInt(5), came, room);
+      ends.add(log.length());
+    }
+    put(32, log.log());
+    put(16, Bytes.headBytes(1, log.length()));
+    int said = plain.open();
+    Due.is(run + ", open() of rows made by hand", x.open(), said);
+    if (said < 0) {
+      put(16, Bytes.headBytes(1, ends.get(-2 - said)));
+      same("open() of those that are right", x::open, plain::open);
+    }
+  }
+
+  private int oftenAs(int number) {
+    return random.nextInt(25) == 0 ? number + random.nextInt(3) - 1 & 65535 : number;
+  }
+
+  private void addRow(Bytes log, int kind, int[] came, int room) {
+    int chunks = Math.min(room, 4);
+    int one = random.nextInt(Math.max(came[3], 1));
+    if (kind == 1) {
+      log.chunk(oftenAs(random.nextInt(chunks)), random.nextInt(2), 0, random.nextInt(2));
+    } else if (kind == 2) {
+      log.change(oftenAs(came[2]), 8 * random.nextInt(3), random.nextInt(2), oftenAs(1));
+    } else if (kind == 3) {
+      log.version(oftenAs(came[3]), random.nextInt(chunks), random.nextInt(chunks), random.nextInt(chunks));
+    } else if (kind == 4) {
+      log.answer(oftenAs(came[4]), one, oftenAs(63), random.nextInt());
+    } else {
+      log.drop(one);
+    }
+    came[kind]++;
+  }
+
+  private void put(int place, byte[] bytes) {
+    for (int i = 0; i < bytes.length; i++) {
+      int mask = (plain.byteAt(place + i) ^ bytes[i]) & 255;
+      if (mask != 0) {
+        poke(place + i, mask);
+      }
     }
   }
 }

@@ -1,31 +1,30 @@
-/** When heads and rows are right: logs made by hand, put on the disk by poke, and opened. */
+/** Logs that no calls wrote: made by hand, put on the disk by poke, and opened; and logs of many chunks. */
 public final class RightTest {
-  private static final int NONE = GraphLog.NONE;
-  private static final long HIGH = 0xFFFFFFFFL;
+  private static final int NONE = GraphLog.NONE, FULL = GraphLog.FULL;
+  private static final int[] SIZES = {64, 3, 16, 10, 0};
 
   public static void main(String[] args) {
-    heads();
-    headsOfTwo();
-    lengths();
-    frames();
+    kinds();
+    sizes();
     chunks();
     changes();
     versions();
     answers();
     drops();
     alikeByHand();
+    namedByNone();
     oldRowsBehind();
-    mostChunks();
+    manyChunks();
     Due.end();
   }
 
   /** What open() says of a log on a new disk with a room of 4. */
   private static void opens(String what, Bytes log, int want) {
-    GraphLog x = log.onNew(4);
-    Due.is(what, x.open(), want);
-    Due.is(what + ": is it open", x.isOpen(), want >= 0);
+    Store s = log.onNew(4);
+    Due.is(what, s.open(), want);
+    Due.is(what + ": is it open", s.isOpen(), want >= 0 ? 1 : 0);
     if (want >= 0) {
-      Due.is(what + ": badAt", x.badAt(), NONE);
+      Due.is(what + ": badAt", s.badAt(), NONE);
     }
   }
 
@@ -34,40 +33,35 @@ public final class RightTest {
     opens(what, log, -2 - (rows - 1));
     Bytes other = rightLogOf(log.length());
     if (other != null) {
-      GraphLog x = other.onNew(4);
-      Due.is(what + ": right rows are there first", x.open() >= 0, true);
-      Bytes.put(x, 32, log.log());
-      Due.is(what + ": badAt", x.badAt(), rows - 1);
-      Bytes.put(x, 32, other.log());
-      Due.is(what + ": badAt, right again", x.badAt(), NONE);
+      Store s = other.onNew(4);
+      Due.is(what + ": right rows are there first", s.open() >= 0, true);
+      s.turn(32, other.log(), log.log());
+      Due.is(what + ": badAt", s.badAt(), rows - 1);
+      s.turn(32, log.log(), other.log());
+      Due.is(what + ": badAt, right again", s.badAt(), NONE);
     }
   }
 
   /** Right rows of so many bytes, so that an open store has a log of that length; null if none were found. */
   private static Bytes rightLogOf(int length) {
-    for (int versions = 0; versions <= 100; versions++) {
-      for (int answers = 0; answers <= (versions == 0 ? 0 : 14); answers++) {
-        int rest = length - (versions == 0 ? 0 : 76) - 28 * versions - 22 * answers;
-        for (int chunks = 0; chunks < 15 && rest >= 76 * chunks; chunks++) {
-          if ((rest - 76 * chunks) % 15 == 0) {
-            return rightLog(versions, answers, chunks, (rest - 76 * chunks) / 15);
-          }
+    for (int chunks = 0; 76 * chunks <= length; chunks++) {
+      for (int versions = 0; versions <= (chunks == 0 ? 0 : 6); versions++) {
+        int rest = length - 76 * chunks - 28 * versions;
+        if (rest >= 0 && rest % 15 == 0) {
+          return rightLog(chunks, versions, rest / 15);
         }
       }
     }
     return null;
   }
 
-  private static Bytes rightLog(int versions, int answers, int chunks, int changes) {
-    Bytes log = versions == 0 ? new Bytes() : new Bytes().chunk(0);
+  private static Bytes rightLog(int chunks, int versions, int changes) {
+    Bytes log = new Bytes();
+    for (int i = 0; i < chunks; i++) {
+      log.chunk(0);
+    }
     for (int i = 0; i < versions; i++) {
       log.version(i, 0);
-    }
-    for (int i = 0; i < answers; i++) {
-      log.answer(i, 0, 0, 1);
-    }
-    for (int i = 0; i < chunks; i++) {
-      log.chunk(1);
     }
     for (int i = 0; i < changes; i++) {
       log.change(i, 1, 1, 1 - i % 2);
@@ -75,117 +69,11 @@ public final class RightTest {
     return log;
   }
 
-  private static void heads() {
-    Bytes log = new Bytes().change(0, 1, 2, 1);
-    GraphLog x = log.onNew(4);
-    x.poke(16 + 15, 1);
-    Due.is("a head with another sum is not taken", x.open(), 0);
-    Due.is("but the other", x.told(5), 0);
-    x.poke(16 + 15, 1);
-    for (int i = 0; i < 16; i++) {
-      x.poke(16 + i, 1 << (i % 8));
-      x.open();
-      Due.is("a head with a turned byte " + i, x.told(5), 0);
-      x.poke(16 + i, 1 << (i % 8));
-    }
-    x.open();
-    Due.is("the head with the greater turn", x.told(5), 1);
-    x.poke(3, 1);
-    x.open();
-    Due.is("the other one may be wrong", x.told(4), 1);
-    x.poke(19, 1);
-    Due.is("both wrong", x.open(), NONE);
-    Bytes.put(x, 0, new byte[16]);
-    Bytes.put(x, 16, new byte[16]);
-    Due.is("a head of zeros is not right", x.open(), NONE);
-  }
-
-  private static void headsOfTwo() {
-    Bytes log = new Bytes().change(0, 1, 2, 1).change(1, 3, 4, 1);
-    GraphLog x = log.onNew(4);
-    taken(x, 5, 15, 5, 30, 15);
-    taken(x, 6, 15, 5, 30, 15);
-    taken(x, 5, 15, 6, 30, 30);
-    taken(x, HIGH, 15, 6, 30, 15);
-    taken(x, 0x80000000L, 15, 0x7FFFFFFFL, 30, 15);
-    taken(x, 0x7FFFFFFFL, 15, 0x80000000L, 30, 30);
-    taken(x, 0, 15, HIGH, 30, 30);
-    // a turn need not be of the place where it stands
-    taken(x, 7, 15, 4, 30, 15);
-    Due.is("the turn behind an odd one at 0", x.keep(), 8);
-    Due.is("is at 0, as it is even", Bytes.stands(x, 0, Bytes.headBytes(8, 15)), true);
-  }
-
-  private static void taken(GraphLog x, long turn0, int length0, long turn16, int length16, int want) {
-    Bytes.put(x, 0, Bytes.headBytes(turn0, length0));
-    Bytes.put(x, 16, Bytes.headBytes(turn16, length16));
-    x.open();
-    Due.is("of heads " + turn0 + " and " + turn16, x.told(3), want);
-    Due.is("its turn, of " + turn0 + " and " + turn16, x.told(5), (int) (want == length0 ? turn0 : turn16));
-  }
-
-  private static void lengths() {
-    GraphLog x = new GraphLog();
-    long[] wrong = {24001, 24032, 0x80000000L, HIGH, 0x10000};
-    for (long length : wrong) {
-      Bytes.put(x, 16, Bytes.headBytes(1, length));
-      Due.is("a length of " + length, x.open(), 0);
-      Due.is("its head is not taken, " + length, x.told(5), 0);
-    }
-    Bytes.put(x, 16, Bytes.headBytes(1, 24000));
-    Due.is("a length of 24000 is right, but there is no row", x.open(), -2);
-    Bytes log = new Bytes().change(0, 1, 2, 1).change(1, 3, 4, 1);
-    for (int length = 0; length <= 42; length++) {
-      GraphLog y = new GraphLog();
-      log.putOn(y, 1, length);
-      Due.is("the log ends in a row, " + length, y.open(), length % 15 == 0 && length <= 30 ? 0 : -2 - length / 15);
-    }
-    GraphLog z = new GraphLog();
-    log.putOn(z, 1, 15);
-    z.open();
-    Due.is("what is behind counts for nothing", z.has(NONE, 3, 4), false);
-    Due.is("rows", z.told(8), 1);
-    Bytes full = new Bytes();
-    for (int i = 0; i < 1600; i++) {
-      full.change(i, i % 64, i / 64, 1);
-    }
-    Due.is("a full log", full.onNew(4).open(), 0);
-  }
-
-  private static void frames() {
-    int[] sizes = {64, 3, 16, 10, 0};
-    for (int kind = 0; kind < 256; kind++) {
-      if (kind < 1 || kind > 5) {
-        lastIsBad("kind " + kind, new Bytes().row(kind, 0, new byte[3]), 1);
-        lastIsBad("kind " + kind + ", no bytes", new Bytes().row(kind, 0, new byte[0]), 1);
-      }
-    }
-    for (int kind = 1; kind <= 5; kind++) {
-      int size = sizes[kind - 1];
-      Bytes before = new Bytes().chunk(0).version(0, 0);
-      opens("kind " + kind + " of its size", good(before, kind), kind == 5 ? 0 : kind == 3 ? 2 : 1);
-      lastIsBad("kind " + kind + ", a byte more", front().row(kind, number(kind), text(kind, size + 1)), 3);
-      if (size > 0) {
-        lastIsBad("kind " + kind + ", a byte less", front().row(kind, number(kind), text(kind, size - 1)), 3);
-      }
-      lastIsBad("kind " + kind + ", another size told", front().row(kind, number(kind), size + 1, text(kind, size)), 3);
-      lastIsBad("kind " + kind + ", size 255 told", front().row(kind, number(kind), 255, text(kind, size)), 3);
-    }
-    GraphLog x = new Bytes().change(0, 1, 2, 1).onNew(4);
-    byte[] moved = new byte[15];
-    for (int i = 0; i < 15; i++) {
-      moved[i] = (byte) x.byteAt(32 + i);
-    }
-    moved[2] = 1;
-    Bytes.put(x, 47, moved);
-    Bytes.put(x, 16, Bytes.headBytes(1, 30));
-    Due.is("a row's sum is of its place too", x.open(), -3);
-  }
-
   private static Bytes front() {
     return new Bytes().chunk(0).version(0, 0);
   }
 
+  /** Of a row that is right behind front(). */
   private static int number(int kind) {
     return kind == 1 || kind == 3 ? 1 : 0;
   }
@@ -198,9 +86,29 @@ public final class RightTest {
     return text;
   }
 
-  private static Bytes good(Bytes log, int kind) {
-    int[] sizes = {64, 3, 16, 10, 0};
-    return log.row(kind, number(kind), text(kind, sizes[kind - 1]));
+  private static void kinds() {
+    for (int kind = 0; kind < 256; kind++) {
+      if (kind < 1 || kind > 5) {
+        lastIsBad("kind " + kind, new Bytes().row(kind, 0, new byte[3]), 1);
+        lastIsBad("kind " + kind + ", no bytes", new Bytes().row(kind, 0, new byte[0]), 1);
+      }
+    }
+    for (int kind = 1; kind <= 5; kind++) {
+      Bytes log = front().row(kind, number(kind), text(kind, SIZES[kind - 1]));
+      opens("kind " + kind + " of its size", log, kind == 5 ? 0 : kind == 3 ? 2 : 1);
+    }
+  }
+
+  private static void sizes() {
+    for (int kind = 1; kind <= 5; kind++) {
+      int size = SIZES[kind - 1];
+      lastIsBad("kind " + kind + ", a byte more", front().row(kind, number(kind), text(kind, size + 1)), 3);
+      if (size > 0) {
+        lastIsBad("kind " + kind + ", a byte less", front().row(kind, number(kind), text(kind, size - 1)), 3);
+      }
+      lastIsBad("kind " + kind + ", another size told", front().row(kind, number(kind), size + 1, text(kind, size)), 3);
+      lastIsBad("kind " + kind + ", size 255 told", front().row(kind, number(kind), 255, text(kind, size)), 3);
+    }
   }
 
   private static void chunks() {
@@ -213,12 +121,12 @@ public final class RightTest {
     lastIsBad("named by another still",
         new Bytes().chunk(2, 1).version(0, 2).version(1, 2).drop(0).chunk(2, 7), 5);
     opens("named by none of two", new Bytes().chunk(2).version(0, 2).version(1, 2).drop(0).drop(1).chunk(2), 0);
-    GraphLog x = new Bytes().chunk(2, 1).chunk(2, 6).version(0, 2).onNew(4);
-    x.open();
-    Due.is("the later bytes count", x.has(0, 0, 1) && x.has(0, 0, 2) && !x.has(0, 0, 0), true);
-    Due.is("in each part", x.has(0, 56, 2), true);
-    Due.is("named once", x.named(2), 1);
-    GraphLog wide = new Bytes().chunk(65535, 1).version(0, 65535).onNew(65536);
+    Store s = new Bytes().chunk(2, 1).chunk(2, 6).version(0, 2).onNew(4);
+    s.open();
+    Due.is("the later bytes count", "" + s.has(0, 0, 0) + s.has(0, 0, 1) + s.has(0, 0, 2), "011");
+    Due.is("in each part", s.has(0, 56, 2), 1);
+    Due.is("named once", s.named(2), 1);
+    Store wide = new Bytes().chunk(65535, 1).version(0, 65535).onNew(65536);
     Due.is("the greatest number opens", wide.open(), 1);
     Due.is("the greatest number", wide.chunk(0, 7), 65535);
     Due.is("is named", wide.named(65535), 1);
@@ -240,9 +148,11 @@ public final class RightTest {
     lastIsBad("other node 255", new Bytes().change(0, 0, 255, 1), 1);
     lastIsBad("an edge goes that is not there", new Bytes().change(0, 0, 0, 0), 1);
     lastIsBad("an edge comes that is there", new Bytes().change(0, 0, 0, 1).change(1, 0, 0, 1), 2);
-    lastIsBad("neither comes nor goes", new Bytes().change(0, 0, 0, 2), 1);
-    lastIsBad("neither, and it is there", new Bytes().change(0, 0, 0, 1).change(1, 0, 0, 2), 2);
-    lastIsBad("neither, of a high bit", new Bytes().change(0, 0, 0, 0x81), 1);
+    // 1 if it comes, 0 if it goes: any other byte tells neither, and so changes nothing
+    for (int on = 2; on < 256; on++) {
+      lastIsBad("it neither comes nor goes, " + on, new Bytes().change(0, 0, 0, on), 1);
+      lastIsBad("neither, and it is there, " + on, new Bytes().change(0, 0, 0, 1).change(1, 0, 0, on), 2);
+    }
   }
 
   private static void versions() {
@@ -261,19 +171,13 @@ public final class RightTest {
       numbers[g] = 3;
       opens("chunk " + g + " came", new Bytes().chunk(3).chunk(0).version(0, numbers), 1);
     }
-    Bytes log = new Bytes().chunk(0);
-    for (int i = 0; i < 100; i++) {
-      log.version(i, 0);
-    }
-    opens("100 versions", log, 100);
-    lastIsBad("a version more", log.version(100, 0), 102);
   }
 
   private static void answers() {
     opens("an answer", front().answer(0, 0, 63, 0), 1);
-    GraphLog x = front().answer(0, 0, 63, 0x123456789ABCDEF0L).onNew(4);
-    x.open();
-    Due.is("its mask is what the row tells", x.mask(0), 0x123456789ABCDEF0L);
+    Store s = front().answer(0, 0, 63, 0x123456789ABCDEF0L).onNew(4);
+    s.open();
+    Due.is("its mask is what the row tells", s.mask(0), 0x123456789ABCDEF0L);
     lastIsBad("an answer's number", front().answer(1, 0, 0, 1), 3);
     lastIsBad("a second answer's number", front().answer(0, 0, 0, 1).answer(0, 0, 0, 1), 4);
     lastIsBad("no such version", front().answer(0, 1, 0, 1), 3);
@@ -281,12 +185,6 @@ public final class RightTest {
     lastIsBad("a version that is dropped", front().drop(0).answer(0, 0, 0, 1), 4);
     lastIsBad("no node", front().answer(0, 0, 64, 1), 3);
     lastIsBad("node 255", front().answer(0, 0, 255, 1), 3);
-    Bytes log = front();
-    for (int i = 0; i < 100; i++) {
-      log.answer(i, 0, i % 64, i);
-    }
-    opens("100 answers", log, 1);
-    lastIsBad("an answer more", log.answer(100, 0, 0, 1), 103);
   }
 
   private static void drops() {
@@ -300,79 +198,73 @@ public final class RightTest {
 
   /** A log that no calls wrote may name two chunks that are alike. */
   private static void alikeByHand() {
-    GraphLog x = new Bytes().chunk(3, 9).chunk(1, 9).chunk(2).version(0, 3, 2, 1, 2).onNew(4);
-    Due.is("two chunks that are alike", x.open(), 1);
-    Due.is("both are named", x.told(7), 3);
-    Due.is("each has its number", x.chunk(0, 0) * 10 + x.chunk(0, 2), 31);
-    x.edge(0, 0, true);
-    x.edge(0, 3, true);
-    x.version();
-    Due.is("the least of them is taken", x.chunk(1, 0), 1);
-    Due.is("nothing is new", x.told(8), 7);
-    GraphLog y = new Bytes().chunk(0, 9).chunk(1).onNew(4);
-    Due.is("chunks that none names", y.open(), 0);
-    Due.is("they do not count", y.told(7), 0);
-    y.version();
-    Due.is("a chunk that came, but that none names, is new", y.chunk(0, 0), 0);
-    Due.is("it is written", y.told(8), 4);
-    Due.is("and right", y.badAt(), NONE);
+    Store s = new Bytes().chunk(3, 9).chunk(1, 9).chunk(2).version(0, 3, 2, 1, 2).onNew(4);
+    Due.is("two chunks that are alike", s.open(), 1);
+    Due.is("both are named", s.told(7), 3);
+    Due.is("each has its number", s.chunk(0, 0) * 10 + s.chunk(0, 2), 31);
+    s.edge(0, 0, true);
+    s.edge(0, 3, true);
+    s.version();
+    Due.is("the least of them is taken", s.chunk(1, 0), 1);
+    Due.is("nothing is new", s.told(8), 7);
   }
 
-  /** As many chunks as a log has room for. */
-  private static void mostChunks() {
-    Bytes log = new Bytes();
-    int[] numbers = new int[8];
-    for (int i = 0; i < 315; i++) {
-      log.chunk(i * 200, i);
-      numbers[i % 8] = i * 200;
-    }
-    log.version(0, numbers);
-    GraphLog x = log.onNew(65536);
-    Due.is("315 chunks and a version", x.open(), 1);
-    Due.is("eight of them are named", x.told(7), 8);
-    Due.is("the last one", x.chunk(0, 314 % 8), 314 * 200);
-    Due.is("its edges", x.differ(0, NONE), 39);
-    Due.is("there is no room for a version more", x.version(), GraphLog.FULL);
-    Bytes named = new Bytes();
-    for (int v = 0; v < 36; v++) {
-      int[] eight = new int[8];
-      for (int g = 0; g < 8; g++) {
-        eight[g] = 8 * v + g;
-        named.chunk(eight[g], eight[g] + 1);
-      }
-      named.version(v, eight);
-    }
-    GraphLog y = named.onNew(65536);
-    Due.is("288 chunks that are named", y.open(), 36);
-    Due.is("all are", y.told(7), 288);
-    y.edge(63, 63, true);
-    Due.is("a version behind them", y.version(), 36);
-    Due.is("its chunks have the least numbers that are free", y.chunk(36, 0) * 1000 + y.chunk(36, 7), 288289);
-    Due.is("drop of a whole version", y.drop(7), 8);
-    y.edge(0, 40, true);
-    Due.is("one more", y.version(), 37);
-    Due.is("a number in their midst", y.chunk(37, 0), 56);
-    Due.is("it is right", y.badAt(), NONE);
+  private static void namedByNone() {
+    Store s = new Bytes().chunk(0, 9).chunk(1).onNew(4);
+    Due.is("chunks that none names", s.open(), 0);
+    Due.is("they do not count", s.told(7), 0);
+    s.version();
+    Due.is("a chunk that came, but that none names, is new", s.chunk(0, 0), 0);
+    Due.is("it is written", s.told(8), 4);
+    Due.is("and right", s.badAt(), NONE);
   }
 
   /** A head that was wrong for a time keeps more than was written since: other rows, with old ones behind. */
   private static void oldRowsBehind() {
-    GraphLog x = new GraphLog();
-    x.begin(4);
-    x.keep();
-    x.edge(0, 1, true);
-    x.edge(2, 3, true);
-    x.version();
-    x.keep();
-    x.poke(0, 1);
-    Due.is("the older head", x.open(), 0);
-    Due.is("tells of nothing", x.told(3), 0);
-    x.edge(4, 5, true);
-    x.poke(0, 1);
-    Due.is("the later head again", x.open(), 1);
-    Due.is("the first row is the new one", x.has(NONE, 4, 5) && !x.has(NONE, 0, 1), true);
-    Due.is("the rest is as it was", x.has(NONE, 2, 3) && x.has(0, 0, 1) && x.has(0, 2, 3), true);
-    Due.is("the version is not NOW", x.differ(0, NONE), 2);
-    Due.is("all rows are right", x.badAt(), NONE);
+    Store s = Store.of(4);
+    s.keep();
+    s.edge(0, 1, true);
+    s.edge(2, 3, true);
+    s.version();
+    s.keep();
+    s.poke(0, 1);
+    Due.is("the older head", s.open(), 0);
+    Due.is("tells of nothing", s.told(3), 0);
+    s.edge(4, 5, true);
+    s.poke(0, 1);
+    Due.is("the later head again", s.open(), 1);
+    Due.is("the first row is the new one", "" + s.has(NONE, 4, 5) + s.has(NONE, 0, 1), "10");
+    Due.is("the rest is as it was", "" + s.has(NONE, 2, 3) + s.has(0, 0, 1) + s.has(0, 2, 3), "111");
+    Due.is("the version is not NOW", s.differ(0, NONE), 2);
+    Due.is("all rows are right", s.badAt(), NONE);
+  }
+
+  /** So many chunks are named as calls can make, each by one version. */
+  private static void manyChunks() {
+    Store s = Store.of(65536);
+    int made = 0;
+    int version = 0;
+    while (version != FULL) {
+      for (int g = 0; g < 8 && version != FULL; g++) {
+        s.edge(8 * g + made % 8, g + 8 * (made / 8), true);
+      }
+      version = s.version();
+      made += version == FULL ? 0 : 1;
+    }
+    Due.is("versions of eight new chunks", made, 31);
+    Due.is("all are named", s.told(7), 248);
+    Due.is("the last one's number", s.chunk(30, 7), 247);
+    Due.is("drop of a whole version", s.drop(7), 8);
+    Due.is("and of another", s.drop(3), 8);
+    for (int g = 2; g < 8; g++) {
+      s.edge(8 * g + 31 % 8, g + 24, false);
+    }
+    Due.is("one more", s.version(), 31);
+    Due.is("numbers in their midst", s.chunk(31, 0) * 1000 + s.chunk(31, 1), 24025);
+    Due.is("the others are those of the version before", s.chunk(31, 2) * 1000 + s.chunk(31, 7), 242247);
+    Due.is("it is right", s.badAt(), NONE);
+    s.keep();
+    Due.is("it opens", s.open(), 30);
+    Due.is("chunks that are named", s.told(7), 234);
   }
 }
