@@ -673,6 +673,7 @@ public final class GraphLog {
             }
         }
 
+        /** A byte that is neither 1 nor 0 tells neither that the edge comes nor that it goes: it changes nothing. */
         private boolean isChange(int a, int b, int on) {
             return a < NODES && b < NODES && on <= 1 && (edgesOfNow(a) >>> b & 1L) != on;
         }
